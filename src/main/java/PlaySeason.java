@@ -89,7 +89,7 @@ public final class PlaySeason {
     }
 
     public int plan() {
-        if (hasNoHouse() || !page.isPlan(now.titles.size)) {
+        if (!hasHouse() || !page.isPlan(now.titles.size)) {
             return STATE;
         }
         now.plan.read(page);
@@ -118,7 +118,7 @@ public final class PlaySeason {
     }
 
     public int night(int night, int what) {
-        if (hasNoHouse() || !isNight(night)) {
+        if (!hasHouse() || !isNight(night)) {
             return UNKNOWN;
         }
         if (what < 0 || what >= NIGHT_WHATS) {
@@ -130,7 +130,7 @@ public final class PlaySeason {
     // ---- what is done
 
     public int play(int night, int title) {
-        if (hasNoHouse() || !isNight(night)) {
+        if (!hasHouse() || !isNight(night)) {
             return UNKNOWN;
         }
         if (title != NONE && !now.titles.has(title)) {
@@ -145,7 +145,7 @@ public final class PlaySeason {
         if (by < 1 || by >= NIGHTS) {
             return OUTSIDE;
         }
-        if (hasNoHouse()) {
+        if (!hasHouse()) {
             return STATE;
         }
         now.plan.shift(by);
@@ -156,7 +156,7 @@ public final class PlaySeason {
         if (!isKind(kind) || set < 0 || set >= SETS || cast < 0 || cast >= CASTS) {
             return OUTSIDE;
         }
-        if (hasNoHouse()) {
+        if (!hasHouse()) {
             return STATE;
         }
         if (now.titles.size >= MOST_TITLES) {
@@ -196,7 +196,7 @@ public final class PlaySeason {
     }
 
     public int best(int first, int last, int what) {
-        if (hasNoHouse() || !isSpan(first, last)) {
+        if (!hasHouse() || !isSpan(first, last)) {
             return UNKNOWN;
         }
         if (what < 0 || what >= BEST_WHATS) {
@@ -254,7 +254,7 @@ public final class PlaySeason {
         if (times < 1 || times > MOST_DRAWN || seed < 0 || what < 0 || what >= DRAWN_WHATS) {
             return OUTSIDE;
         }
-        if (hasNoHouse()) {
+        if (!hasHouse()) {
             return STATE;
         }
         int broken = 0;
@@ -274,7 +274,7 @@ public final class PlaySeason {
     // ---- what is told of all
 
     public int image() {
-        if (hasNoHouse()) {
+        if (!hasHouse()) {
             return STATE;
         }
         kept.copy(now);
@@ -324,7 +324,7 @@ public final class PlaySeason {
                 h = 31 * h + ofTitle(title, what);
             }
         }
-        if (!hasNoHouse()) {
+        if (hasHouse()) {
             for (int night = 0; night < NIGHTS; night++) {
                 for (int what = 0; what < NIGHT_WHATS; what++) {
                     h = 31 * h + ofNight(night, what);
@@ -345,8 +345,8 @@ public final class PlaySeason {
 
     // ---- what the calls share
 
-    private boolean hasNoHouse() {
-        return now.titles.size == 0;
+    private boolean hasHouse() {
+        return now.titles.size > 0;
     }
 
     private static boolean isNight(int night) {
@@ -396,7 +396,7 @@ public final class PlaySeason {
         return could ? KINDS_IF_SO[what] : ALL_KINDS & ~KINDS_IF_SO[what];
     }
 
-    /** The thing to ask next of a title that can be of these kinds; a later one must be better, as of like ones the least is due. */
+    /** What to ask next of a title that can be of these kinds; of like ones the least, so a later one must be better. */
     private static int ask(int sorts) {
         if (sorts == 0) {
             return NONE;
@@ -858,7 +858,7 @@ public final class PlaySeason {
             }
         }
 
-        /** The digits of the way, one for each open night, the first night's the highest: 0 is dark, 1 is title 0, and so on. */
+        /** A way is a number with a digit for each open night, the first night's the highest; 0 is dark, 1 is title 0. */
         private void fill(int way) {
             int base = titles.size + 1;
             int rest = way;

@@ -63,6 +63,12 @@ public final class BestTest {
         best("t00al5,t01al1", "00.00.00.00.", 3, 10, "00.00100100.");
         best("t00al5,t01al1", "00.00.00.00.", 2, 2, "00100.00.00.");
         best("t00al5", "000.........", 0, 2, "000.........");
+        // one span behind another, on one object
+        PlaySeason x = Due.withPlan("t00al5,t01al1", "............");
+        DUE.is("best(0, 1, 2)", x.best(0, 1, 2), 2);
+        DUE.is("best(8, 11, 2)", x.best(8, 11, 2), 6);
+        DUE.is("best(4, 4, 2)", x.best(4, 4, 2), 7);
+        DUE.plan("best", x, "00..0...0010");
     }
 
     private static void refusals() {

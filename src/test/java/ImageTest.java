@@ -23,6 +23,7 @@ public final class ImageTest {
         x.rights(0, 3, 4);
         x.be(1, 4);
         x.add(3, 1, 1);
+        x.rights(2, 3, 4);
         x.play(0, 2);
         x.delay(2);
         x.forget();
@@ -36,6 +37,8 @@ public final class ImageTest {
         DUE.is("restore() again", x.restore(), 2);
         DUE.is("digest(), restored again", x.digest(), ahead);
         DUE.is("add(4, 3, 2), restored", x.add(4, 3, 2), 2);
+        DUE.is("title(2, 3), restored", x.title(2, 3), 0);
+        DUE.is("title(2, 4), restored", x.title(2, 4), 11);
         DUE.is("title(2, 6), restored", x.title(2, 6), 0);
         DUE.is("title(2, 7), restored", x.title(2, 7), 31);
     }
