@@ -11,6 +11,10 @@ final class Due {
         }
     }
 
+    int asked() {
+        return asked;
+    }
+
     void end() {
         System.out.println(asked + " answers, " + wrong + " wrong");
         if (wrong != 0 || asked == 0) {
