@@ -1,4 +1,5 @@
 import java.io.IOException;
+import java.math.BigInteger;
 import java.nio.file.Files;
 import java.nio.file.Path;
 import java.util.ArrayList;
@@ -175,6 +176,37 @@ final class Bounds {
         PlaySeason x = Due.withPlan(house, plan);
         for (int night = 0; night < 12; night++) {
             is(house + " " + plan + " night(" + night + ", 2)", x.night(night, 2), night < want.length ? want[night] : 0);
+        }
+    }
+
+    /** So many plans that a seed draws, each put by hand: how many NIGHTS BREAK, how much is EARNED, the seed then. */
+    static int[] drawnByHand(String house, int seed, int times) {
+        BigInteger now = BigInteger.valueOf(seed);
+        int broken = 0;
+        int earned = 0;
+        for (int time = 0; time < times; time++) {
+            PlaySeason x = Due.withHouse(house);
+            for (int night = 0; night < 12; night++) {
+                now = nextSeed(now);
+                int draw = now.divide(BigInteger.valueOf(65536)).intValueExact() % (x.count(0) + 1);
+                x.play(night, draw == 0 ? PlaySeason.NONE : draw - 1);
+            }
+            broken += x.count(2);
+            earned += x.count(4);
+        }
+        return new int[] {broken, earned, now.intValueExact()};
+    }
+
+    private static BigInteger nextSeed(BigInteger seed) {
+        return seed.multiply(BigInteger.valueOf(1103515245)).add(BigInteger.valueOf(12345)).mod(BigInteger.TWO.pow(31));
+    }
+
+    /** That drawn() tells what those plans do that are put by hand. */
+    void drawnIs(String house, int seed, int times) {
+        int[] want = drawnByHand(house, seed, times);
+        PlaySeason x = Due.withHouse(house);
+        for (int what = 0; what < 3; what++) {
+            is(house + " drawn(" + times + ", " + seed + ", " + what + ")", x.drawn(times, seed, what), want[what]);
         }
     }
 

@@ -85,6 +85,7 @@ public final class BoundsDoneTest {
                 B.refused("play(11, " + wild + ")", PlaySeason.UNKNOWN, Bounds.WITH_HOUSE[scene], x -> x.play(11, wild));
             }
             for (int title = PlaySeason.NONE; title < Bounds.TITLES[scene]; title++) {
+                B.so("play(0, " + title + ") is done", Bounds.WITH_HOUSE[scene].make().play(0, title) >= 0);
                 B.so("play(11, " + title + ") is done", Bounds.WITH_HOUSE[scene].make().play(11, title) >= 0);
             }
         }
@@ -106,9 +107,9 @@ public final class BoundsDoneTest {
                 B.is(plan + " delay(" + by + "), as that plan put", x.digest(), Due.withPlan(FIVE, want).digest());
             }
         }
-        // rights stay where they are
+        // rights stay where they are; a night that breaks has a title all the same
         PlaySeason x = Due.withPlan("t00aa1", "0...........");
-        x.delay(1);
+        B.is("delay(1)", x.delay(1), 1);
         B.is("night(1, 1)", x.night(1, 1), 1);
     }
 
@@ -135,6 +136,17 @@ public final class BoundsDoneTest {
                         B.is("title(1, " + what + ")", x.title(1, what), want[what]);
                     }
                 }
+            }
+        }
+        // whatever another HOUSE had at that number
+        PlaySeason again = Due.withHouse("f44ff9,f44ff9,f44ff9,f44ff9,f44ff9");
+        Due.type(again, "g32cd1");
+        again.house();
+        for (int number = 1; number < 5; number++) {
+            B.is("add(0, 1, 2)", again.add(0, 1, 2), number);
+            int[] want = {0, 1, 2, 0, 11, 5, 0, 31, 0};
+            for (int what = 0; what < want.length; what++) {
+                B.is("another HOUSE, title(" + number + ", " + what + ")", again.title(number, what), want[what]);
             }
         }
         // on the first night and on the last one it has rights, and 500 seats

@@ -255,10 +255,6 @@ public final class BoundsFurtherTermsTest {
 
     // ---- DRAWN
 
-    private static BigInteger next(BigInteger seed) {
-        return TIMES.multiply(seed).add(AND).mod(TWO_TO_31);
-    }
-
     /** The seed from which so many draws lead to this one. */
     private static int seedAhead(BigInteger then, int draws) {
         BigInteger seed = then;
@@ -275,7 +271,11 @@ public final class BoundsFurtherTermsTest {
                 x.drawn(times, Integer.MAX_VALUE, what);
             }
         }
-        B.alike("drawn", x, Bounds.busy());
+        B.is("drawn, digest()", x.digest(), Bounds.busy().digest());
+        B.is("drawn, restore()", x.restore(), 3);
+        PlaySeason restored = Bounds.busy();
+        restored.restore();
+        B.alike("drawn, restored", x, restored);
     }
 
     private static void oneMoreThanTitles() {
@@ -284,31 +284,10 @@ public final class BoundsFurtherTermsTest {
             String house = five.substring(0, 7 * titles - 1);
             for (int seed : new int[] {0, 1, 2, 65535, 65536, Integer.MAX_VALUE - 1, Integer.MAX_VALUE}) {
                 for (int times : new int[] {1, 2, 19, 20}) {
-                    likePlansPut(house, seed, times);
+                    B.drawnIs(house, seed, times);
                 }
             }
         }
-    }
-
-    private static void likePlansPut(String house, int seed, int times) {
-        int broken = 0;
-        int earned = 0;
-        BigInteger now = BigInteger.valueOf(seed);
-        for (int time = 0; time < times; time++) {
-            PlaySeason x = Due.withHouse(house);
-            for (int night = 0; night < 12; night++) {
-                now = next(now);
-                int draw = now.divide(BigInteger.valueOf(65536)).intValueExact() % (x.count(0) + 1);
-                x.play(night, draw == 0 ? PlaySeason.NONE : draw - 1);
-            }
-            broken += x.count(2);
-            earned += x.count(4);
-        }
-        String call = house + " drawn(" + times + ", " + seed + ", ";
-        PlaySeason x = Due.withHouse(house);
-        B.is(call + "0)", x.drawn(times, seed, 0), broken);
-        B.is(call + "1)", x.drawn(times, seed, 1), earned);
-        B.is(call + "2)", x.drawn(times, seed, 2), now.intValueExact());
     }
 
     private static void nextSeed() {
@@ -321,10 +300,10 @@ public final class BoundsFurtherTermsTest {
         }
         // the rest is 0 at each night of one plan: on its first draw, and on its last one
         for (int draw = 1; draw <= 12; draw++) {
-            likePlansPut("t00al9,d01al1", seedAhead(BigInteger.ZERO, draw), 1);
-            likePlansPut("t00al9,d01al1", seedAhead(BigInteger.valueOf(Integer.MAX_VALUE), draw), 1);
-            likePlansPut("t00al9,d01al1", seedAhead(BigInteger.valueOf(65535), draw), 1);
-            likePlansPut("t00al9,d01al1", seedAhead(BigInteger.valueOf(65536), draw), 1);
+            B.drawnIs("t00al9,d01al1", seedAhead(BigInteger.ZERO, draw), 1);
+            B.drawnIs("t00al9,d01al1", seedAhead(BigInteger.valueOf(Integer.MAX_VALUE), draw), 1);
+            B.drawnIs("t00al9,d01al1", seedAhead(BigInteger.valueOf(65535), draw), 1);
+            B.drawnIs("t00al9,d01al1", seedAhead(BigInteger.valueOf(65536), draw), 1);
         }
     }
 
@@ -345,6 +324,8 @@ public final class BoundsFurtherTermsTest {
         changedAndBack(x, ahead, "delay", y -> y.delay(11));
         changedAndBack(x, ahead, "see", y -> y.see(0, 1, false));
         changedAndBack(x, ahead, "forget", y -> y.forget());
+        changedAndBack(x, ahead, "forget, and other things seen", y -> y.forget() + y.see(0, 3, true) + y.see(0, 3, false));
+        changedAndBack(x, ahead, "forget, and another title seen", y -> y.forget() + y.see(1, 3, true) + y.see(0, 1, false));
         // THE PAGE is not kept, nor is how often best() was told
         x.letter('c');
         x.restore();

@@ -89,7 +89,8 @@ public final class BoundsHouseTest {
         x.letter(32);
         PlaySeason y = new PlaySeason();
         y.letter(126);
-        B.is("digest() of code 126, less that of code 32", y.digest() - x.digest(), (126 - 32) * (long) Math.pow(31, 5) * (long) Math.pow(31, 5));
+        long timesTen = (long) Math.pow(31, 10);
+        B.is("digest() of code 126, less that of code 32", y.digest() - x.digest(), (126 - 32) * timesTen);
     }
 
     private static void forty() {
@@ -206,6 +207,16 @@ public final class BoundsHouseTest {
                 B.is("house() again, count(8)", x.count(8), 1);
             }
         }
+        faultyHouses();
+    }
+
+    /** One letter of five titles at a time is such as no house has anywhere. */
+    private static void faultyHouses() {
+        for (int place = 0; place < FIVE.length(); place++) {
+            String text = FIVE.substring(0, place) + "?" + FIVE.substring(place + 1);
+            B.refused("house() of " + text, PlaySeason.STATE, () -> typed(Bounds.busy(), text), PlaySeason::house);
+        }
+        B.refused("house() of t00ba1", PlaySeason.STATE, () -> typed(Bounds.busy(), "t00ba1"), PlaySeason::house);
     }
 
     private static PlaySeason typed(PlaySeason x, String text) {
@@ -286,6 +297,16 @@ public final class BoundsHouseTest {
         titleIs(x, 1, 4, 4, 4, 11, 11, 9, 12, 17, 3);
         x.see(1, 2, true);
         titleIs(x, 1, 4, 4, 4, 11, 11, 9, 12, 0, PlaySeason.NONE);
+        // from no night to all twelve, each title
+        for (int title = 0; title < 5; title++) {
+            PlaySeason y = Due.withHouse(FIVE);
+            for (int night = 0; night < 12; night++) {
+                B.is("title(" + title + ", 6), " + night, y.title(title, 6), night);
+                y.play(night, title);
+            }
+            B.is("title(" + title + ", 6), all", y.title(title, 6), 12);
+            B.is("title of another one, 6", y.title((title + 1) % 5, 6), 0);
+        }
     }
 
     private static void noTitle() {
@@ -304,6 +325,9 @@ public final class BoundsHouseTest {
         }
         for (int wild : Bounds.outside(0, 8)) {
             B.refused("title(0, " + wild + ")", PlaySeason.OUTSIDE, Bounds.WITH_HOUSE, x -> x.title(0, wild));
+        }
+        for (int what = 0; what <= 8; what++) {
+            B.so("title(0, " + what + ") is told", Bounds.one().title(0, what) >= 0);
         }
     }
 
@@ -362,6 +386,11 @@ public final class BoundsHouseTest {
         nightIs(x, 2, 4, 3, 441);
         nightIs(x, 3, 0, 3, 150);
         nightIs(x, 0, 4, 0, 900);
+        // nights that broke, dark then
+        Due.replan(x, "............");
+        for (int night = 0; night < 12; night++) {
+            nightIs(x, night, PlaySeason.NONE, 0, 0);
+        }
     }
 
     private static void noNight() {
@@ -377,6 +406,10 @@ public final class BoundsHouseTest {
         for (int wild : Bounds.outside(0, 2)) {
             B.refused("night(0, " + wild + ")", PlaySeason.OUTSIDE, Bounds.WITH_HOUSE, x -> x.night(0, wild));
             B.refused("night(11, " + wild + ")", PlaySeason.OUTSIDE, Bounds.WITH_HOUSE, x -> x.night(11, wild));
+        }
+        for (int what = 0; what < 3; what++) {
+            B.so("night(0, " + what + ") is told", Bounds.full().night(0, what) >= 0);
+            B.so("night(11, " + what + ") is told", Bounds.full().night(11, what) >= 0);
         }
     }
 }

@@ -14,6 +14,7 @@ public final class BoundsTermsTest {
             + " a FILL (1 to 9).", BoundsTermsTest::numbersOfTitle);
         B.sentence("what.2", "An object is used for at most 512 calls after it has been made", BoundsTermsTest::calls);
         B.sentence("terms.1", "one to five TITLES (numbered from 0) with \",\" between", BoundsTermsTest::howManyTitles);
+        B.sentence("terms.35", "At first there is none.", BoundsTermsTest::noHouseAtFirst);
         B.sentence("terms.2", "a letter \"a\" to \"l\" (LAST, not ahead of FIRST)", BoundsTermsTest::lastNotAheadOfFirst);
         B.sentence("terms.3", "KINDS are told by the letter: 0 TITLE \"t\", 1 GALA \"g\", 2 FAREWELL \"f\", 3 ROW \"r\","
             + " 4 DRAW \"d\".", BoundsTermsTest::kindLetters);
@@ -114,6 +115,8 @@ public final class BoundsTermsTest {
         houseOrNot("t00al1,t00al2,t00al3,t00al4,t00al5", 5);
         houseOrNot("t00al1,t00al2,t00al3,t00al4,t00al5,t00al", PlaySeason.STATE);
         houseOrNot("t00al1,t00al2,t00al3,t00al4,t00al5,", PlaySeason.STATE);
+        houseOrNot("t00al", PlaySeason.STATE);
+        houseOrNot("t00al1,t00al", PlaySeason.STATE);
         houseOrNot(",", PlaySeason.STATE);
         houseOrNot(",t00al1", PlaySeason.STATE);
         houseOrNot("t00al1,", PlaySeason.STATE);
@@ -121,6 +124,21 @@ public final class BoundsTermsTest {
         houseOrNot("t00al1t00al2", PlaySeason.STATE);
         houseOrNot("t00al1;t00al2", PlaySeason.STATE);
         houseOrNot("t00al1, t00al2", PlaySeason.STATE);
+    }
+
+    /** Nor is there one by letters alone, nor by a page that is none. */
+    private static void noHouseAtFirst() {
+        PlaySeason x = new PlaySeason();
+        B.is("new: count(0)", x.count(0), 0);
+        Due.type(x, "t00al1");
+        B.is("letters: count(0)", x.count(0), 0);
+        B.is("letters: title(0, 0)", x.title(0, 0), PlaySeason.UNKNOWN);
+        B.is("letters: night(0, 0)", x.night(0, 0), PlaySeason.UNKNOWN);
+        x.letter(',');
+        B.is("house() of a part", x.house(), PlaySeason.STATE);
+        B.is("house() of a part: count(0)", x.count(0), 0);
+        B.is("house() of a part: add(0, 0, 0)", x.add(0, 0, 0), PlaySeason.STATE);
+        B.is("house() of a part: count(8)", x.count(8), 0);
     }
 
     private static void lastNotAheadOfFirst() {

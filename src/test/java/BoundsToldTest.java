@@ -101,12 +101,15 @@ public final class BoundsToldTest {
         }
         for (int title = 0; title < 5; title++) {
             for (int what = 0; what < 4; what++) {
-                int of = title;
-                int own = what;
-                B.refused("see(" + of + ", " + own + ", true), the seventh", PlaySeason.FULL, Bounds::full, x -> x.see(of, own, true));
-                B.refused("see(" + of + ", " + own + ", false), the seventh", PlaySeason.FULL, Bounds::full, x -> x.see(of, own, false));
+                seventh(title, what, true);
+                seventh(title, what, false);
             }
         }
+    }
+
+    private static void seventh(int title, int what, boolean could) {
+        String call = "see(" + title + ", " + what + ", " + could + "), the seventh";
+        B.refused(call, PlaySeason.FULL, Bounds::full, x -> x.see(title, what, could));
     }
 
     private static void forgets() {
@@ -131,11 +134,13 @@ public final class BoundsToldTest {
     // ---- promise 19
 
     private static void drawn() {
-        PlaySeason x = Due.withHouse("t00aa1");
-        B.is("drawn(1, 0, 2)", x.drawn(1, 0, 2), seedBehind(0, 12));
-        B.is("drawn(20, 0, 2)", x.drawn(20, 0, 2), seedBehind(0, 240));
-        B.is("drawn(1, 2147483647, 2)", x.drawn(1, Integer.MAX_VALUE, 2), 561616019);
-        B.is("drawn(20, 2147483647, 2)", x.drawn(20, Integer.MAX_VALUE, 2), seedBehind(Integer.MAX_VALUE, 240));
+        B.is("drawn(1, 2147483647, 2)", Due.withHouse("t00aa1").drawn(1, Integer.MAX_VALUE, 2), 561616019);
+        for (int seed : new int[] {0, 1, Integer.MAX_VALUE}) {
+            B.drawnIs("t00aa1", seed, 1);
+            B.drawnIs("t00aa1", seed, 20);
+            B.drawnIs(FIVE, seed, 1);
+            B.drawnIs(FIVE, seed, 20);
+        }
         // many plans are one behind another, the next from the seed of the one ahead
         PlaySeason y = Due.withHouse("t00al9,g01al3,r00al4,d02al1,f04bl6");
         for (int what = 0; what < 2; what++) {
@@ -149,14 +154,6 @@ public final class BoundsToldTest {
             }
         }
         B.so("drawn(20, 77, 1) is more than none", y.drawn(20, 77, 1) > 0);
-    }
-
-    private static int seedBehind(int seed, int draws) {
-        BigInteger now = BigInteger.valueOf(seed);
-        for (int draw = 0; draw < draws; draw++) {
-            now = now.multiply(BigInteger.valueOf(1103515245)).add(BigInteger.valueOf(12345)).mod(BigInteger.TWO.pow(31));
-        }
-        return now.intValueExact();
     }
 
     private static void drawnNot() {
